@@ -65,6 +65,21 @@ public final class PromisesTest {
         return show;
     }
 
+    /** As much of everything as there may be: ten jets, five figures of eight steps, six entries. */
+    private static FountainShow fullShow() {
+        FountainShow show = withOpenJets(9, 8, 7, 6, 5, 4, 3, 2, 1, 0);
+        for (int figure = 0; figure < 5; figure++) {
+            show.addFigure();
+            for (int step = 0; step < 8; step++) {
+                show.addStep(figure, 2 * step, step + 2, figure + step % 2);
+            }
+        }
+        for (int entry = 0; entry < 6; entry++) {
+            show.play(entry % 3, 2 * entry + 1);
+        }
+        return show;
+    }
+
     private static String written(FountainShow show, int figure) {
         int length = show.writeFigure(figure);
         StringBuilder text = new StringBuilder();
@@ -224,6 +239,14 @@ public final class PromisesTest {
         due("3:0=6", written(show, 0));
         due(1, show.removeJet(0));
         refused(INDEX, () -> show.removeJet(0));
+        FountainShow full = fullShow();
+        due(0, full.removeJet(0));
+        due(5, full.removeJet(8));
+        due(0, full.removeJet(0));
+        due(7, full.jetCount());
+        due(1, full.position(6));
+        due(7, full.position(0));
+        due("0:0=4 2:1=5 4:2=4 6:3=5 8:4=4 10:5=5 12:6=4", written(full, 4));
     }
 
     private static void setOpening() {
@@ -282,6 +305,8 @@ public final class PromisesTest {
         refused(INDEX, () -> show.height(-1));
         FountainShow closed = withJets(5);
         closed.setCapacity(0);
+        due(0, closed.height(0));
+        closed.setOpening(0, 1);
         due(0, closed.height(0));
     }
 
@@ -343,6 +368,12 @@ public final class PromisesTest {
         due(2, show.wildCount());
         show.setCapacity(0);
         due(0, show.wildCount());
+        FountainShow full = fullShow();
+        full.setCapacity(100);
+        full.setWind(-9);
+        due(10, full.wildCount());
+        due(93, full.trim());
+        due(0, full.wildCount());
     }
 
     private static void highestJet() {
@@ -376,6 +407,13 @@ public final class PromisesTest {
         refused(MISSING, () -> show.jetByPosition(4));
         refused(MISSING, () -> show.jetByPosition(-1));
         refused(MISSING, () -> new FountainShow().jetByPosition(0));
+        FountainShow full = fullShow();
+        due(9, full.jetByPosition(0));
+        due(0, full.jetByPosition(9));
+        refused(MISSING, () -> full.jetByPosition(10));
+        due(0, full.highestJet());
+        due(9, full.nearestLanding(0));
+        due(0, full.crossings());
     }
 
     private static void nearestLanding() {
@@ -604,6 +642,18 @@ public final class PromisesTest {
         due(2, show.figureCount());
         show.cancel(1);
         due(1, show.removeFigure(1));
+        FountainShow first = new FountainShow();
+        first.addFigure();
+        first.play(0, 1);
+        refused(STATE, () -> first.removeFigure(0));
+        FountainShow full = fullShow();
+        refused(STATE, () -> full.removeFigure(0));
+        refused(STATE, () -> full.removeFigure(2));
+        due(8, full.removeFigure(3));
+        due("0:2=4 2:3=5 4:4=4 6:5=5 8:6=4 10:7=5 12:8=4 14:9=5", written(full, 3));
+        due(8, full.removeFigure(3));
+        due(3, full.figureCount());
+        due(2, full.entryFigure(5));
     }
 
     private static void addStep() {
@@ -650,6 +700,11 @@ public final class PromisesTest {
         due(0, show.removeStep(0, 0));
         refused(INDEX, () -> show.removeStep(0, 0));
         due("9:0=9", written(show, 1));
+        FountainShow full = fullShow();
+        due(7, full.removeStep(4, 7));
+        due(8, full.addStep(4, 1, 1, 1));
+        due(7, full.removeStep(4, 0));
+        due("2:3=5 4:4=4 6:5=5 8:6=4 10:7=5 12:8=4 1:1=1", written(full, 4));
     }
 
     private static void figureCount() {
@@ -776,6 +831,12 @@ public final class PromisesTest {
         due(3, show.cancel(0));
         due(5, show.cancel(0));
         refused(INDEX, () -> show.cancel(0));
+        FountainShow full = fullShow();
+        due(11, full.cancel(5));
+        due(1, full.cancel(0));
+        due(4, full.queueLength());
+        due(9, full.entryStart(3));
+        due(3, full.entryStart(0));
     }
 
     private static void pass() {
@@ -817,6 +878,7 @@ public final class PromisesTest {
         due(6, show.opening(1));
         due(1, show.pass(1));
         due(3, show.opening(1));
+        due(6, fullShow().pass(40));
     }
 
     private static void beat() {
@@ -888,6 +950,10 @@ public final class PromisesTest {
         due(1, show.beatsUntilEmpty());
         due(1, show.pass(1));
         due(0, show.beatsUntilEmpty());
+        show.play(1, 2);
+        show.play(1, 9);
+        show.cancel(1);
+        due(2, show.beatsUntilEmpty());
     }
 
     private static FountainShow forecast() {
@@ -944,6 +1010,30 @@ public final class PromisesTest {
         show.addStep(0, 0, 1, 9);
         due(7, show.demandAfterBySteps(3));
         due(15, show.demandAfterBySteps(4));
+        // A step of the next beat; and an earlier step of a later entry, which does not win.
+        FountainShow next = withJets(1);
+        next.addFigure();
+        next.addFigure();
+        next.addStep(0, 0, 0, 4);
+        next.addStep(1, 0, 0, 6);
+        next.play(0, 1);
+        due(4, next.demandAfterBySteps(1));
+        next.cancel(0);
+        next.play(0, 3);
+        next.play(1, 2);
+        due(6, next.demandAfterBySteps(2));
+        due(4, next.demandAfterBySteps(3));
+        due(4, next.demandAfter(3));
+        // In the same beat the later entry wins, and in an entry the later step.
+        next.play(1, 3);
+        due(6, next.demandAfterBySteps(3));
+        next.addStep(1, 0, 0, 8);
+        due(8, next.demandAfterBySteps(3));
+        due(8, next.demandAfter(3));
+        FountainShow full = fullShow();
+        for (int beats = 0; beats <= 40; beats++) {
+            due(full.demandAfter(beats), full.demandAfterBySteps(beats));
+        }
     }
 
     private static void firstOverload() {
@@ -1033,6 +1123,12 @@ public final class PromisesTest {
     private static void isConsistent() {
         due(true, new FountainShow().isConsistent());
         due(true, crossing().isConsistent());
+        FountainShow full = fullShow();
+        due(true, full.isConsistent());
+        full.setWind(9);
+        full.setCapacity(100);
+        full.pass(7);
+        due(true, full.isConsistent());
         FountainShow show = forecast();
         due(true, show.isConsistent());
         due(0, show.beat());
@@ -1315,6 +1411,20 @@ public final class PromisesTest {
         show.addFigure();
         show.undo();
         due(2, show.figureCount());
+        FountainShow full = fullShow();
+        String last = written(full, 4);
+        full.removeFigure(4);
+        full.addFigure();
+        full.addStep(4, 20, 0, 10);
+        full.cancel(5);
+        full.play(4, 30);
+        full.removeJet(9);
+        for (int change = 0; change < 6; change++) {
+            full.undo();
+        }
+        due(last, written(full, 4));
+        due(11, full.entryStart(5));
+        due(0, full.position(9));
     }
 
     private static void undoCount() {
@@ -1393,8 +1503,20 @@ public final class PromisesTest {
         due(3, show.jetCount());
         due(2, show.restore());
         due(2, show.jetCount());
-        show.save();
-        show.undoCount();
-        due(2, show.restore());
+        FountainShow full = fullShow();
+        String last = written(full, 4);
+        full.save();
+        full.pass(40);
+        for (int figure = 4; figure >= 0; figure--) {
+            full.removeFigure(figure);
+        }
+        for (int jet = 9; jet >= 0; jet--) {
+            full.removeJet(jet);
+        }
+        due(10, full.restore());
+        due(last, written(full, 4));
+        due(11, full.entryStart(5));
+        due(0, full.position(9));
+        due(100, full.demand());
     }
 }
