@@ -3,7 +3,8 @@ import java.util.function.Supplier;
 
 /** Long runs of calls, the same on the class and on the model; each answer and each exception has to agree. */
 public final class ModelTest {
-    private static final int RUNS = 300;
+    private static final int RUNS = 6000;
+    /** What an object answers after this many calls is free. */
     private static final int CALLS = 512;
     private static final String[] PARTS = {"jet ", "open ", "pump ", "wind ", "trim", "figure", "step ", "play ",
         "pass ", ";", "+", "-", ":", "=", " ", "0", "1", "12", "999", "x", "p", "st", "\u0661"};
@@ -14,6 +15,7 @@ public final class ModelTest {
     private final Model model = new Model();
     private final StringBuilder told = new StringBuilder();
     private String waiting = "";
+    private int calls = 0;
     private int wrong = 0;
 
     private ModelTest(int run) {
@@ -32,8 +34,10 @@ public final class ModelTest {
         }
     }
 
+    /** Some runs end early, so that calls are left to look at everything. */
     private int go() {
-        for (int call = 0; call < CALLS && wrong == 0; call++) {
+        int last = random.nextBoolean() ? CALLS : 20 + random.nextInt(CALLS - 20);
+        while (calls < last && wrong == 0) {
             if (!waiting.isEmpty()) {
                 feedNext();
             } else if (random.nextInt(3) == 0) {
@@ -42,9 +46,7 @@ public final class ModelTest {
                 change();
             }
         }
-        if (wrong == 0) {
-            lookAtAll();
-        }
+        lookAtAll();
         return wrong;
     }
 
@@ -57,6 +59,10 @@ public final class ModelTest {
     }
 
     private void same(String name, Supplier<Object> first, Supplier<Object> second) {
+        if (calls == CALLS || wrong > 0) {
+            return;
+        }
+        calls++;
         Object got = answer(first);
         Object want = answer(second);
         told.append(name).append(" -> ").append(want).append('\n');
@@ -195,7 +201,7 @@ public final class ModelTest {
             int times = random.nextInt(random.nextInt(4) == 0 ? 10 : 3);
             for (int time = 0; time < times; time++) {
                 same("undo()", show::undo, model::undo);
-                lookAtAll();
+                lookAtSome();
             }
         }
     }
@@ -224,12 +230,42 @@ public final class ModelTest {
                 same("isConsistent()", show::isConsistent, () -> true);
                 break;
             default:
-                lookAtAll();
+                lookAtSome();
+                break;
+        }
+    }
+
+    private void lookAtSome() {
+        switch (random.nextInt(4)) {
+            case 0:
+                lookAtNumbers();
+                break;
+            case 1:
+                lookAtJet(jet());
+                break;
+            case 2:
+                lookAtFigure(figure());
+                break;
+            default:
+                lookAtEntry(entry());
                 break;
         }
     }
 
     private void lookAtAll() {
+        lookAtNumbers();
+        for (int jet = -1; jet <= model.world.jets.size(); jet++) {
+            lookAtJet(jet);
+        }
+        for (int entry = -1; entry <= model.world.queue.size(); entry++) {
+            lookAtEntry(entry);
+        }
+        for (int figure = -1; figure <= model.world.figures.size(); figure++) {
+            lookAtFigure(figure);
+        }
+    }
+
+    private void lookAtNumbers() {
         same("jetCount()", show::jetCount, () -> model.world.jets.size());
         same("wildCount()", show::wildCount, () -> (int) model.world.jets.stream().filter(model.world::wild).count());
         same("highestJet()", show::highestJet, model::highestJet);
@@ -248,15 +284,6 @@ public final class ModelTest {
         same("meanOpening()", show::meanOpening, model::meanOpening);
         same("supplyFraction()", show::supplyFraction, model::supplyFraction);
         same("undoCount()", show::undoCount, () -> model.changes.size());
-        for (int jet = -1; jet <= model.world.jets.size(); jet++) {
-            lookAtJet(jet);
-        }
-        for (int figure = -1; figure <= model.world.figures.size(); figure++) {
-            lookAtFigure(figure);
-        }
-        for (int entry = -1; entry <= model.world.queue.size(); entry++) {
-            lookAtEntry(entry);
-        }
     }
 
     private void lookAtJet(int jet) {

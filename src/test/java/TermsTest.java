@@ -222,6 +222,10 @@ public final class TermsTest {
         Checks.due(0, closed.height(0));
         closed.setCapacity(0);
         Checks.due(0, closed.height(0));
+        closed.setOpening(0, 1);
+        Checks.due(0, closed.height(0));
+        closed.setCapacity(1);
+        Checks.due(10, closed.height(0));
         // Down, not to the nearest: 10 times 10 times 99 through 100 is 99, 10 times 1 times 99 through 91 is 10.8.
         FountainShow most = Shows.full();
         most.setOpening(9, 10);
