@@ -40,6 +40,7 @@ public final class FaceTest {
         noPrivateMethodBearsAPublicName();
         staticFieldsAreFinal();
         sourceKeepsToTheRules(Files.readString(SOURCE));
+        methodsAreShort(Files.readString(SOURCE));
         System.out.println(wrong == 0 ? "face: as due" : "face: " + wrong + " not as due");
         if (wrong != 0) {
             System.exit(1);
@@ -153,5 +154,30 @@ public final class FaceTest {
             imports.add(imported.group(1));
         }
         due("imports", List.of("java.util.NoSuchElementException"), imports);
+    }
+
+    /** A method goes from the last line with the indent of its closing bracket to that bracket. */
+    private static void methodsAreShort(String source) {
+        String[] lines = source.split("\n");
+        int methods = 0;
+        for (String indent : List.of("    ", "        ")) {
+            int start = 0;
+            for (int line = 0; line < lines.length; line++) {
+                boolean isClosing = lines[line].equals(indent + "}");
+                if (isClosing && !lines[start].matches(".* (class|enum) .*")) {
+                    methods++;
+                    due("at most 60 lines:" + lines[start], true, line - start + 1 <= 60);
+                }
+                start = lines[line].matches(indent + "\\S.*") ? line : start;
+            }
+        }
+        int written = 0;
+        for (Class<?> owner : owners()) {
+            for (Method method : owner.getDeclaredMethods()) {
+                due("at most 7 parameters: " + method.getName(), true, method.getParameterCount() <= 7);
+                written += method.isSynthetic() || owner.isEnum() ? 0 : 1;
+            }
+        }
+        due("each method is among the " + methods + " blocks found", true, methods >= written);
     }
 }
